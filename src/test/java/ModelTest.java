@@ -69,7 +69,10 @@ public final class ModelTest {
 
     private void tell(int[] faults, boolean spoil) {
         Texts texts = new Texts(random);
-        String text = texts.make(spoil && random.nextBoolean());
+        String text = random.nextInt(5) == 0 ? texts.makeFull() : texts.make(spoil && random.nextBoolean());
+        if (text.length() > 1000) {
+            text = texts.make(false);
+        }
         if (spoil) {
             text = texts.spoilt(text);
         }

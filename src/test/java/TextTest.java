@@ -69,6 +69,12 @@ public final class TextTest {
         Checks.feedBytes(x, "person a;person a;$$".getBytes());
         CHECKS.due("text(18)", x.text(18), Checks.fault(16, 2));
         CHECKS.due("count(7), taken with a fault", x.count(7), 0);
+        Checks.feedBytes(x, "person abcd;".getBytes());
+        CHECKS.due("text(9), cut in a WORD", x.text(9), Checks.fault(9, 1));
+        Checks.feedBytes(x, "deposit ab 1900 1 12;".getBytes());
+        CHECKS.due("text(19), cut in a NUMBER", x.text(19), Checks.fault(19, 1));
+        Checks.feedBytes(x, "person abcdefghijk;".getBytes());
+        CHECKS.due("text(15), cut behind eight letters", x.text(15), Checks.fault(15, 1));
     }
 
     private static void dueText(String text, int want) {
@@ -85,7 +91,9 @@ public final class TextTest {
         dueText("person a;", 1);
         dueText("person\na\n;\n", 1);
         dueText("person a born1900 1 1died1950 1 1;", 1);
-        dueText("person abcdefgh;", 1);
+        dueText("person abcdefgh;person zz;person z;", 3);
+        dueFault("person a;person aa;person b;person aa;", 35, 2);
+        dueFault("person az;person az;", 17, 2);
         dueFault("person abcdefghi;", 7, 1);
         dueFault("personabc d;", 0, 1);
         dueFault("personab d;", 0, 1);

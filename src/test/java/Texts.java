@@ -119,6 +119,37 @@ final class Texts {
         return text.toString();
     }
 
+    /** As many of all as can be, in lines short enough for the tape. */
+    String makeFull() {
+        StringBuilder text = new StringBuilder();
+        for (int i = 0; i < 8; i++) {
+            text.append("person y").append((char) ('a' + i)).append(';');
+        }
+        for (int i = 0; i < 4; i++) {
+            text.append("deposit z").append((char) ('a' + i)).append(" 19").append(random.nextInt(10)).append("0 1 1;");
+        }
+        for (int i = 0; i < 24; i++) {
+            text.append("piece ").append((char) ('a' + i));
+            if (i > 0 && random.nextInt(3) > 0) {
+                text.append(" in ").append((char) ('a' + random.nextInt(i)));
+            }
+            text.append(" 18").append(10 + random.nextInt(90)).append(" 1 1");
+            int more = random.nextInt(8);
+            text.append(more == 0 ? " of y" + aLetter(8) : more == 1 ? " from z" + aLetter(4) : "").append(';');
+        }
+        for (int i = 0; i < 12; i++) {
+            int sort = random.nextInt(4);
+            text.append(sort == 0 ? "close person y" + aLetter(8) + " 9 9 " + random.nextInt(90)
+                : sort == 1 ? "close deposit z" + aLetter(4) + " " + random.nextInt(90)
+                : "close content " + aLetter(24) + " " + random.nextInt(90)).append(';');
+        }
+        return text.toString();
+    }
+
+    private char aLetter(int many) {
+        return (char) ('a' + random.nextInt(many));
+    }
+
     String spoilt(String text) {
         StringBuilder spoilt = new StringBuilder(text);
         int times = 1 + random.nextInt(2);
