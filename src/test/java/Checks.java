@@ -1,6 +1,7 @@
 import java.nio.charset.StandardCharsets;
 import java.time.LocalDate;
 import java.time.temporal.ChronoUnit;
+import java.util.function.IntUnaryOperator;
 
 /** What the tests share: counting wrong answers, days by the library's calendar, texts on the tape. */
 final class Checks {
@@ -17,6 +18,28 @@ final class Checks {
 
     void due(String call, boolean got, boolean want) {
         due(call, got ? 1 : 0, want ? 1 : 0);
+    }
+
+    void due(String call, String got, String want) {
+        if (!got.equals(want)) {
+            wrong++;
+            System.out.println(call + " answered " + got + ", due is " + want);
+        }
+    }
+
+    /** The last values that are taken and the first that are refused, on both sides. */
+    void dueRange(String call, IntUnaryOperator answer, int least, int most, int refusal) {
+        due(call + " takes " + least, answer.applyAsInt(least) != refusal, true);
+        due(call + " takes " + most, answer.applyAsInt(most) != refusal, true);
+        dueRefused(call, answer, least - 1, most + 1, refusal);
+    }
+
+    /** All that is not between these is refused. */
+    void dueRefused(String call, IntUnaryOperator answer, int below, int above, int refusal) {
+        int[] outside = {below, above, Integer.MIN_VALUE, Integer.MAX_VALUE, below - 1, above + 1};
+        for (int value : outside) {
+            due(call + " of " + value, answer.applyAsInt(value), refusal);
+        }
     }
 
     void finish() {
@@ -73,11 +96,6 @@ final class Checks {
     }
 
     void dueSooner(ClosedUntil x, int closure, int piece, int readers, String want) {
-        String got = sooner(x, closure, piece, readers);
-        if (!got.equals(want)) {
-            wrong++;
-            System.out.println("sooner(" + closure + ", " + piece + ", " + readers + ") answered " + got
-                + ", due is " + want);
-        }
+        due("sooner(" + closure + ", " + piece + ", " + readers + ")", sooner(x, closure, piece, readers), want);
     }
 }

@@ -126,8 +126,12 @@ final class Model {
             text.append((char) (b & 255));
         }
         tape.clear();
+        return read(text.toString());
+    }
+
+    int read(String text) {
         try {
-            Reading reading = new Reading(text.toString());
+            Reading reading = new Reading(text);
             int lines = reading.all();
             world = reading.made;
             undoable.clear();

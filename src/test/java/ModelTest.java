@@ -8,6 +8,8 @@ import java.util.Random;
 public final class ModelTest {
     private static final int RUNS = 1500;
     private static final int CALLS = 200;
+    /** Of 512 that an object is good for, a text may take 51. */
+    private static final int MOST_CALLS = 512 - 51;
     private static final int LATE = ClosedUntil.LATE;
     private static final int[] ODD = {Integer.MIN_VALUE, Integer.MAX_VALUE, -3, -2, -1, 0, 1, 12, 16, 24, 31, 32, 4096,
         LATE - 1, LATE, LATE + 1};
@@ -17,6 +19,7 @@ public final class ModelTest {
     private final Model model = new Model();
     private final StringBuilder story = new StringBuilder();
     private boolean wrong = false;
+    private int calls = 0;
 
     private ModelTest(long seed) {
         random = new Random(seed);
@@ -50,7 +53,7 @@ public final class ModelTest {
 
     private void go(int[] faults) {
         tell(faults, false);
-        for (int i = 0; i < CALLS && !wrong; i++) {
+        for (int i = 0; i < CALLS && calls < MOST_CALLS && !wrong; i++) {
             if (random.nextInt(60) == 0) {
                 tell(faults, random.nextInt(4) > 0);
             } else {
@@ -60,6 +63,7 @@ public final class ModelTest {
     }
 
     private void due(String call, Object got, Object want) {
+        calls++;
         story.append("  ").append(call).append(" = ").append(got).append('\n');
         if (!got.equals(want)) {
             wrong = true;
