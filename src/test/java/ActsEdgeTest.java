@@ -39,6 +39,7 @@ public final class ActsEdgeTest {
         keepOfNothing();
         keepHoldsAll();
         keepTwice();
+        keepHoldsReviews();
         keepsAreApart();
         keepAndUndo();
         keepBackRefused();
@@ -61,6 +62,11 @@ public final class ActsEdgeTest {
 
     /** With something in all that a call could spoil. */
     private static void toldWithActs(ClosedUntil x) {
+        actsOn(x);
+        Checks.feedBytes(x, "person a;person b;  ".getBytes());
+    }
+
+    private static void actsOn(ClosedUntil x) {
         Checks.tell(x, HOLDINGS);
         x.review(0, 5, 1);
         x.keep(0, false);
@@ -70,7 +76,6 @@ public final class ActsEdgeTest {
         x.keep(1, false);
         x.put(3, 2);
         x.review(4, 9, -1);
-        Checks.feedBytes(x, "person a;person b;  ".getBytes());
     }
 
     private static void dueAsBefore(String what, Consumer<ClosedUntil> refused) {
@@ -406,6 +411,16 @@ public final class ActsEdgeTest {
         x.undo();
         CHECKS.due("the first stays", x.term(4, 2), d(1970, 1, 1));
         CHECKS.due("closure(4, 3)", x.closure(4, 3), 1);
+        ClosedUntil y = told();
+        y.review(4, d(1950, 1, 1), 9);
+        y.review(4, d(1951, 1, 1), 9);
+        y.review(4, d(1940, 1, 1), 0);
+        y.undo();
+        CHECKS.due("those behind it keep their DAYS", y.term(4, 2), d(1950, 1, 1));
+        y.lift(4, 0);
+        y.undo();
+        y.review(4, d(1949, 12, 31), 0);
+        CHECKS.due("those behind it keep their DAYS", y.term(4, 2), d(1950, 1, 1));
     }
 
     private static void refusedActsCannotBeUndone() {
@@ -497,6 +512,26 @@ public final class ActsEdgeTest {
         CHECKS.due("closure(0, 4)", x.closure(0, 4), 9);
     }
 
+    /** REVIEWS are KEPT with their DAYS and YEARS. */
+    private static void keepHoldsReviews() {
+        for (int k = 0; k < 2; k++) {
+            ClosedUntil x = told();
+            x.review(4, d(1950, 1, 1), 9);
+            x.review(4, d(1949, 12, 31), 3);
+            CHECKS.due("term", x.term(4, 2), d(1962, 1, 1));
+            x.undo();
+            CHECKS.due("term", x.term(4, 2), d(1950, 1, 1));
+            x.keep(k, false);
+            x.undo();
+            x.review(4, d(1940, 1, 1), 7);
+            x.review(4, d(1941, 1, 1), 7);
+            CHECKS.due("gone back to", x.keep(k, true), true);
+            CHECKS.due("a REVIEW on TERM", x.term(4, 2), d(1950, 1, 1));
+            x.review(4, d(1949, 12, 31), 3);
+            CHECKS.due("a REVIEW ahead of it", x.term(4, 2), d(1962, 1, 1));
+        }
+    }
+
     private static void keepsAreApart() {
         ClosedUntil x = told();
         x.keep(0, false);
@@ -566,18 +601,17 @@ public final class ActsEdgeTest {
         for (int i = 0; i < faulty.length; i++) {
             String text = faulty[i];
             int want = wants[i];
-            Twins.dueAsBefore(CHECKS, "a FAULT", x -> {
-                toldWithActs(x);
-                x.text(-1);
-                emptyTheTape(x);
-            }, x -> CHECKS.due("text \"" + text + "\"", Checks.tell(x, text), want));
+            Twins.dueAsBefore(CHECKS, "a FAULT", ActsEdgeTest::actsOn,
+                x -> CHECKS.due("text \"" + text + "\"", Checks.tell(x, text), want));
+            Twins.dueAsBefore(CHECKS, "FAULTS in a row", ActsEdgeTest::actsOn, x -> {
+                Checks.tell(x, text);
+                Checks.tell(x, text);
+            });
+            Twins.dueAsBefore(CHECKS, "a FAULT behind two texts", x -> {
+                Checks.tell(x, "piece z 1900 1 1;close content z 1;");
+                actsOn(x);
+            }, x -> Checks.tell(x, text));
         }
-    }
-
-    /** By a fault, as a text without one would change all. */
-    private static void emptyTheTape(ClosedUntil x) {
-        Checks.feedBytes(x, ";".getBytes());
-        CHECKS.due("a fault in what lies on the tape", x.text(21), Checks.fault(20, 1));
     }
 
     // ---- promise 29

@@ -18,12 +18,15 @@ public final class TextEdgeTest {
         textOfMoreThanThereIs();
         textBelowNothing();
         textOfAllAndOfLess();
+        textCutAtEachByte();
         textOfNothing();
+        textAfterText();
         bytesThatBeginNoToken();
         bytesBehindAWord();
         bytesBehindANumber();
         blanksMeanNothingElse();
         wordsHave8Letters();
+        wordsOfOneLetter();
         numbersHave8Digits();
         semicolonsAreAlone();
         namesAreNoKeywords();
@@ -36,6 +39,7 @@ public final class TextEdgeTest {
         namesNotToldAhead();
         namesOfOtherKinds();
         namesMayBeAskedOften();
+        allNamesAreKnown();
         years0To200();
         datesEverywhere();
         deathAheadOfTheBirth();
@@ -182,6 +186,36 @@ public final class TextEdgeTest {
         CHECKS.due("feed comes first on it", Checks.tell(x, "person c;"), 1);
     }
 
+    /** "The first n bytes": not one more, though the tape has more that would go on. */
+    private static void textCutAtEachByte() {
+        String text = "person abc born 1900 12 31 died 2000 10 30;deposit de 1900 11 11;\n"
+            + "piece fg 1900 10 10 of abc from de;piece hi in fg 1950 12 12;\n"
+            + "close person abc 100 110 120 whole;close until hi 2000 12 12;";
+        for (int n = 0; n <= text.length(); n++) {
+            ClosedUntil x = new ClosedUntil();
+            Checks.feedBytes(x, text.getBytes());
+            CHECKS.due("text(" + n + ")", x.text(n), new Model().read(text.substring(0, n)));
+        }
+    }
+
+    /** "are the TEXT from now on": nothing of an earlier one is left, however full it was and often asked. */
+    private static void textAfterText() {
+        String rich = "person p born 1800 1 1 died 1900 1 1;deposit d 1900 1 1;piece q 1900 1 1 of p from d;"
+            + "piece r in q 1900 1 1 of p from d;close content q 9 whole;close person p 9 9 9 whole;";
+        String poor = "person p;deposit d 1700 1 1;piece q 1700 1 1;piece r 1700 1 2;close until q 1700 1 1;"
+            + "close until r 1700 1 1;";
+        for (int before = 1; before <= 3; before++) {
+            ClosedUntil x = new ClosedUntil();
+            for (int i = 0; i < before; i++) {
+                Checks.tell(x, rich);
+            }
+            CHECKS.due("opens(1, 0)", x.opens(1, 0), Checks.d(1910, 1, 1));
+            CHECKS.due("another text", Checks.tell(x, poor), 6);
+            CHECKS.due("opens(1, 0)", x.opens(1, 0), 0);
+            Twins.dueSame(CHECKS, "as told alone", x, Checks.told(poor));
+        }
+    }
+
     /** "The first n bytes .. are the TEXT from now on": none of them tell nothing, and what was told is gone. */
     private static void textOfNothing() {
         ClosedUntil x = new ClosedUntil();
@@ -260,6 +294,18 @@ public final class TextEdgeTest {
         dueFault(3, "piece aa 1900 1 1;close content ^a 1;");
         dueFault(3, "piece a 1900 1 1;close content ^aa 1;");
         dueText("piece abcdefgh 1900 1 1;close content abcdefgh 1;", 2);
+    }
+
+    /** A name is all its letters: one of 1 to 8 equal ones is another than all others. */
+    private static void wordsOfOneLetter() {
+        for (char letter = 'a'; letter <= 'z'; letter++) {
+            StringBuilder text = new StringBuilder();
+            for (int many = 1; many <= 8; many++) {
+                text.append("person ").append(("" + letter).repeat(many)).append(';');
+            }
+            dueText(text.toString(), 8);
+        }
+        dueText("person ab;person ba;person aab;person aba;person baa;person abb;person bab;person bba;", 8);
     }
 
     /** "NUMBERS (digits, likewise)": 1 to 8. */
@@ -477,6 +523,21 @@ public final class TextEdgeTest {
         dueText(TOLD + "close content q 1;close content q 1;close until q 1900 1 1;close person p 1 1 1;"
             + "close person p 1 1 1;close deposit d 1;close deposit d 1;piece x in q 1900 1 1 of p from d;"
             + "piece y in q 1900 1 1 of p from d;", 12);
+    }
+
+    /** "No NAME is given twice", "NAMES are told ahead": as many as there may be, to the last. */
+    private static void allNamesAreKnown() {
+        String names = Full.people(8) + Full.deposits(4) + Full.pieces(24);
+        for (int i = 0; i < 8; i++) {
+            dueText(names + "close person " + Full.name('p', i) + " 1 1 1;", 37);
+        }
+        for (int i = 0; i < 4; i++) {
+            dueText(names + "close deposit " + Full.name('d', i) + " 1;", 37);
+        }
+        for (int i = 0; i < 24; i++) {
+            dueText(names + "close content " + Full.name('q', i) + " 1;", 37);
+            dueFault(2, names.replaceFirst("person ph;", "") + "person ^" + Full.name('q', i) + ";");
+        }
     }
 
     /** "YEARS 0 to 200" and "4 a NUMBER that can't be (at it)". */
